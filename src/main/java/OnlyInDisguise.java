@@ -930,7 +930,6 @@ public final class OnlyInDisguise {
             people = other.people;
             day = other.day;
             fallen = other.fallen;
-            fellToday = other.fellToday;
             for (int p = 0; p < MOST_PEOPLE; p++) {
                 kind[p] = other.kind[p];
                 figure[p] = other.figure[p];

@@ -58,6 +58,8 @@ public final class CabinetTest {
         due("told again", x.cabinet(0), 8);
         due("two more", x.count(0), 4);
         due("e of an empty office", Checks.tell(x, 0, "e2;"), 1);
+        due("e of one that is held", Checks.tell(x, 0, "e3;"), 1);
+        due("it is empty", x.office(3, 1), -4);
         due("h moves one", Checks.tell(x, 0, "h02;h12;"), 2);
         due("left empty", x.office(0, 1), -4);
         due("held now", x.office(1, 1), 2);

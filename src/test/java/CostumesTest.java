@@ -28,6 +28,8 @@ public final class CostumesTest {
         due("another office does not matter", x.bestCostume(1, 1, 0), 0);
         due("there one falls", x.bestCostume(1, 1, 1), 1);
         due("nothing changed", x.office(0, 0), 0);
+        due("the second may be best", Checks.with("p619;h20;").bestCostume(2, 1, 0), 1);
+        due("the last may be best", Checks.with("p699;h20;").bestCostume(2, 1, 0), 9);
         OnlyInDisguise y = Checks.with("p479;p009;p659;h00;h11;k120;d01;h12;k200;");
         due("FALLS that were do not count", y.bestCostume(1, 1, 1), 0);
         due("a common costume keeps a child longer", y.bestCostume(1, 1, 0), 0);

@@ -53,6 +53,9 @@ public final class ShelvesTest {
         due("the old one stays", x.element(0, 99), 5);
         due("a new one", x.row(0, 2, 100), 0);
         due("is 0 at first", x.element(0, 99), 0);
+        x.put(0, 0, 7);
+        x.row(0, 2, 1);
+        due("is 0 at first, anew", x.element(0, 0), 0);
         due("a row of 0", x.row(1, 0, 0), 0);
         due("has no place", x.put(1, 0, 0), -13);
         due("in place of one", x.keep(2, 1, 0, 0), 0);
@@ -135,6 +138,8 @@ public final class ShelvesTest {
         x.keep(3, 1, 0, 0);
         due("to one", x.copy(0, 0, 3, 0, 9), -12);
         due("from one", x.copy(3, 0, 0, 0, 9), -12);
+        due("to one from bytes", x.copy(2, 0, 3, 0, 0), -12);
+        due("from one to bytes", x.copy(3, 0, 2, 0, 0), -12);
         due("from nothing", x.copy(4, 0, 0, 0, 9), -11);
         due("to nothing", x.copy(0, 0, 4, 0, 9), -11);
         due("from one to nothing", x.copy(3, 0, 4, 0, 9), -11);

@@ -143,6 +143,12 @@ public final class WhatKindTest {
         x.knows(0, 9);
         x.knows(1, 9);
         due("all alike: the first", x.two(0, 1, 1), 0);
+        x.knows(0, 7);
+        x.knows(1, 7);
+        due("known 10 is 1 less", x.two(0, 1, 1), 0);
+        x.knows(0, 6);
+        due("the one is known 9", x.two(0, 1, 1), 10);
+        due("the other is known 9", x.two(1, 0, 1), 1);
         due("nothing changed", x.count(3), 3);
         OnlyInDisguise none = Checks.with("p001;p000;h00;h11;o10;k019;k117;");
         due("none is at rest", none.two(0, 1, 2), -4);
