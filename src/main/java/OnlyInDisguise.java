@@ -13,6 +13,7 @@ public final class OnlyInDisguise {
     private static final int NOBODY = -1;
     private static final int TOGETHER = -1;
     private static final int NO_MATE = 9;
+    private static final int NOBODY_AS_TOLD = 9;
     private static final int MOST_KNOWN = 99;
     private static final int MOST_FALLS = 999;
     private static final int LAST_DAY = 999;
@@ -761,7 +762,7 @@ public final class OnlyInDisguise {
 
     private int holderAsTold(int f) {
         if (!isOffice(f) || now.holder[f] == NOBODY) {
-            return NO_MATE;
+            return NOBODY_AS_TOLD;
         }
         return now.holder[f];
     }
