@@ -127,6 +127,10 @@ public final class CostumesTest {
         OnlyInDisguise x = Checks.with("p709;p439;p209;p779;h00;h11;");
         due("over", x.over(0), 2);
         due("plain", x.over(1), 9);
+        OnlyInDisguise full = Checks.with("p709;p009;p009;p009;p009;p009;p009;p709;h07;");
+        due("over of eight", full.over(0), 7);
+        due("plain of eight", full.over(1), 129);
+        due("send of eight", full.send(60), -4);
         due("over of nobody", new OnlyInDisguise().over(0), 0);
         due("plain of nobody", new OnlyInDisguise().over(1), 0);
         due("over(5)", x.over(5), 1000000001);

@@ -56,6 +56,11 @@ public final class ShelvesTest {
         x.put(0, 0, 7);
         x.row(0, 2, 1);
         due("is 0 at first, anew", x.element(0, 0), 0);
+        Checks.fill(x, 1, 2, 8);
+        due("a full row again", x.row(0, 2, 100), 0);
+        due("leaves the next shelf alone", x.element(1, 0), 8);
+        due("a full row on the last shelf", x.row(7, 0, 100), 0);
+        due("its last", x.element(7, 99), 0);
         due("a row of 0", x.row(1, 0, 0), 0);
         due("has no place", x.put(1, 0, 0), -13);
         due("in place of one", x.keep(2, 1, 0, 0), 0);

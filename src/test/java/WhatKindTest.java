@@ -191,6 +191,8 @@ public final class WhatKindTest {
         fraction("who holds none is not in it", home, 0, 1, 2, 1, 1);
         OnlyInDisguise top = Checks.with("p709;h00;k094;");
         fraction("99 is what a sweeper bears", top, 0, 1, 5, 4, 5);
+        OnlyInDisguise full = Checks.with("p009;p009;p009;p009;p009;p009;p009;p009;h37;k714;");
+        fraction("of eight", full, 3, 1, 7, 6, 7);
         due("f 5", x.scandals(5, 0, 2, 0), 1000000001L);
         due("f -1", x.scandals(-1, 0, 2, 0), 1000000001L);
         due("n 8", x.scandals(0, 8, 2, 0), 1000000001L);
@@ -216,6 +218,9 @@ public final class WhatKindTest {
         x.knows(1, 10);
         due("20 by 4, above", x.mean(0), 5);
         due("20 by 4, below", x.mean(1), 1);
+        OnlyInDisguise full = Checks.with("p009;p009;p009;p009;p009;p009;p009;p009;k702;");
+        due("2 by 8, above", full.mean(0), 1);
+        due("2 by 8, below", full.mean(1), 4);
         due("part 2", x.mean(2), 1000000001L);
         due("part -1", x.mean(-1), 1000000001L);
     }
