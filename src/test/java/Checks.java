@@ -1,8 +1,12 @@
+import java.util.IdentityHashMap;
+import java.util.Map;
+
 /** Counts the answers that are not as due, and ends a test by them. */
 final class Checks {
     private final String name;
     private int made = 0;
     private int wrong = 0;
+    private final Map<Houses.Make, String> untouched = new IdentityHashMap<>();
 
     Checks(String name) {
         this.name = name;
@@ -27,6 +31,26 @@ final class Checks {
             got = 2;
         }
         due(call, got, want);
+    }
+
+    /** A call, as it is tried on an object made for it. */
+    interface Call {
+        long on(OnlyInDisguise x);
+    }
+
+    /** A call that changes nothing: its answer, and behind it all that there is as if it had not been made. */
+    void still(String call, Houses.Make make, long want, Call tried) {
+        OnlyInDisguise x = make.anew();
+        due(call, tried.on(x), want);
+        same("behind " + call, Whole.of(x), untouched.computeIfAbsent(make, m -> Whole.of(m.anew())));
+    }
+
+    void same(String what, String got, String want) {
+        made++;
+        if (!got.equals(want)) {
+            wrong++;
+            System.out.println(name + ": " + what + " there is" + got + "\nand due is" + want);
+        }
     }
 
     void end() {
