@@ -30,6 +30,7 @@ public final class CostumeBoundsTest {
         stableAtOnce();
         stableByTen();
         stableToFifty();
+        askedAnew();
         refusedOver();
         CHECKS.end();
     }
@@ -343,6 +344,30 @@ public final class CostumeBoundsTest {
         stable(mates + "k018;k108;k228;k318;k408;", 50);
         stable(mates + "k019;k108;k229;k319;k409;", -4);
         stable("p001;p002;p003;p004;p005;p006;p007;p000;h00;", -4);
+    }
+
+    // Each is told of what there is now, whatever was asked or looked at ahead of it.
+    private static void askedAnew() {
+        OnlyInDisguise x = new OnlyInDisguise();
+        x.image();
+        Checks.tell(x, 0, "p709;p709;p709;p709;p709;p009;p009;p009;h05;");
+        for (int twice = 0; twice < 2; twice++) {
+            due("over(4)", x.over(4), 7);
+            due("casts(-1)", x.casts(-1), 300);
+            due("casts(4)", x.casts(4), 4);
+            due("send(7)", x.send(7), 5);
+            due("bestCostume(0, 7, 1)", x.bestCostume(0, 7, 1), 1);
+        }
+        x.knows(5, 17);
+        due("over(4), KNOWN more", x.over(4), 1);
+        due("send(1), KNOWN more", x.send(1), 5);
+        x.restore();
+        due("over(4) of nobody", x.over(4), 0);
+        due("casts(-1) of nobody", x.casts(-1), 0);
+        due("casts(0) of nobody", x.casts(0), -4);
+        due("send(7) of nobody", x.send(7), -4);
+        due("bestCostume(0, 7, 1) of nobody", x.bestCostume(0, 7, 1), 0);
+        due("over(1) of nobody", x.over(1), 0);
     }
 
     // "Refused as told: -1." and of over() 1000000000 less that
